@@ -1,15 +1,5 @@
-import java.util.Objects;
-
 /** At least one test for each promise of the document: ordinary inputs, edges and wrong inputs. */
-public final class PromisesTest {
-    private static final Class<?> INDEX = IndexOutOfBoundsException.class;
-    private static final Class<?> ARGUMENT = IllegalArgumentException.class;
-    private static final Class<?> STATE = IllegalStateException.class;
-    private static final int[] WRONG_STUDENTS = {-1, 4, Integer.MIN_VALUE, Integer.MAX_VALUE};
-
-    private static int wrong = 0;
-    private static String promise = "";
-
+public final class PromisesTest extends Check {
     public static void main(String[] args) {
         promise01NewObject();
         promise02SetRate();
@@ -40,17 +30,14 @@ public final class PromisesTest {
         promise24Owed();
         promise25HasHold();
         constants();
-        System.out.println(wrong == 0 ? "PromisesTest: all as due" : wrong + " answers are not as due");
-        if (wrong != 0) {
-            System.exit(1);
-        }
+        end("PromisesTest");
     }
 
     // ---- the promises
 
     private static void promise01NewObject() {
-        promise = "1";
-        TermBill x = new TermBill();
+        about("promise 1");
+        Bill x = new Bill();
         due("week", x.week(), 0);
         due("term", x.term(), 0);
         for (int s = 0; s < 4; s++) {
@@ -63,8 +50,8 @@ public final class PromisesTest {
             due("paid", x.paid(s), 0);
             due("owed", x.owed(s), 0);
             due("hasHold", x.hasHold(s), false);
-            fails("no award", INDEX, x, () -> x.used(student, 0));
-            fails("no course", INDEX, x, () -> x.drop(student, 0));
+            fails("no award", INDEX, x, b -> b.used(student, 0));
+            fails("no course", INDEX, x, b -> b.drop(student, 0));
         }
         for (int level = 0; level < 2; level++) {
             due("rate of residents", x.setRate(level, true, 7 + level), 10000);
@@ -79,7 +66,7 @@ public final class PromisesTest {
     }
 
     private static void newObjectHasBandFeeNeedAndLimit() {
-        TermBill x = new TermBill();
+        Bill x = new Bill();
         x.take(1, 10);
         x.take(1, 1);
         due("11 credits", x.owed(1), 110000);
@@ -94,13 +81,13 @@ public final class PromisesTest {
         x.charge(2, TermBill.FEES, 1);
         due("limit of holds 0", x.hasHold(2), true);
         x.plan(2, 1);
-        close(x, 2);
+        x.close(2);
         due("late fee 2500", x.charged(2, TermBill.FEES), 2501);
     }
 
     private static void promise02SetRate() {
-        promise = "2";
-        TermBill x = new TermBill();
+        about("promise 2");
+        Bill x = new Bill();
         due("before", x.setRate(0, true, 0), 10000);
         due("before", x.setRate(0, true, 100000), 0);
         due("before", x.setRate(0, true, 3), 100000);
@@ -117,20 +104,20 @@ public final class PromisesTest {
         }
         x.setRate(1, false, 100000);
         due("rates as they are now", x.charged(3, TermBill.TUITION), 200000);
-        fails("level -1", ARGUMENT, x, () -> x.setRate(-1, true, 1));
-        fails("level 2", ARGUMENT, x, () -> x.setRate(2, true, 1));
-        fails("rate -1", ARGUMENT, x, () -> x.setRate(0, true, -1));
-        fails("rate 100001", ARGUMENT, x, () -> x.setRate(1, false, 100001));
-        fails("rate and level", ARGUMENT, x, () -> x.setRate(Integer.MAX_VALUE, false, Integer.MIN_VALUE));
+        fails("level -1", ARGUMENT, x, b -> b.setRate(-1, true, 1));
+        fails("level 2", ARGUMENT, x, b -> b.setRate(2, true, 1));
+        fails("rate -1", ARGUMENT, x, b -> b.setRate(0, true, -1));
+        fails("rate 100001", ARGUMENT, x, b -> b.setRate(1, false, 100001));
+        fails("rate and level", ARGUMENT, x, b -> b.setRate(Integer.MAX_VALUE, false, Integer.MIN_VALUE));
         due("kept by calls that throw", x.setRate(0, true, 3), 3);
         due("kept by calls that throw", x.setRate(1, false, 1), 100000);
     }
 
     private static void promise03SetBand() {
-        promise = "3";
-        TermBill x = new TermBill();
+        about("promise 3");
+        Bill x = new Bill();
         x.setRate(0, true, 1);
-        take(x, 0, 10, 10, 10, 1);
+        x.takeAll(0, 10, 10, 10, 1);
         due("above 12 to 18", x.owed(0), 12 + 31 - 18);
         x.setBand(30, 30);
         due("above 30 to 30", x.owed(0), 31);
@@ -143,17 +130,17 @@ public final class PromisesTest {
         x.setBand(30, 30);
         due("at the beginning", x.owed(0), 30);
         x.setBand(5, 20);
-        fails("from 0", ARGUMENT, x, () -> x.setBand(0, 1));
-        fails("from 31", ARGUMENT, x, () -> x.setBand(31, 31));
-        fails("to below from", ARGUMENT, x, () -> x.setBand(5, 4));
-        fails("to 31", ARGUMENT, x, () -> x.setBand(1, 31));
-        fails("from below 0", ARGUMENT, x, () -> x.setBand(Integer.MIN_VALUE, 3));
+        fails("from 0", ARGUMENT, x, b -> b.setBand(0, 1));
+        fails("from 31", ARGUMENT, x, b -> b.setBand(31, 31));
+        fails("to below from", ARGUMENT, x, b -> b.setBand(5, 4));
+        fails("to 31", ARGUMENT, x, b -> b.setBand(1, 31));
+        fails("from below 0", ARGUMENT, x, b -> b.setBand(Integer.MIN_VALUE, 3));
         due("still 5 to 20", x.owed(0), 15);
     }
 
     private static void promise04SetShare() {
-        promise = "4";
-        TermBill x = new TermBill();
+        about("promise 4");
+        Bill x = new Bill();
         due("week 0 before", x.setShare(0, 100), 0);
         due("week 0 before", x.setShare(0, 0), 100);
         due("week 15 before", x.setShare(15, 1), 100);
@@ -162,46 +149,46 @@ public final class PromisesTest {
         x.take(0, 1);
         x.take(0, 1);
         due("share of week 0", x.drop(0, 0), 0);
-        close(x, 1);
+        x.close(1);
         due("share of week 1", x.drop(0, 1), 1000);
         x.take(1, 1);
         x.take(1, 1);
-        close(x, 13);
+        x.close(13);
         due("share of week 14", x.drop(1, 0), 10000);
-        close(x, 1);
+        x.close(1);
         due("share of week 15", x.drop(1, 1), 3300);
-        fails("week -1", ARGUMENT, x, () -> x.setShare(-1, 0));
-        fails("week 16", ARGUMENT, x, () -> x.setShare(16, 0));
-        fails("week at the end of int", ARGUMENT, x, () -> x.setShare(Integer.MAX_VALUE, 0));
-        fails("share -1", ARGUMENT, x, () -> x.setShare(0, -1));
-        fails("share 101", ARGUMENT, x, () -> x.setShare(0, 101));
+        fails("week -1", ARGUMENT, x, b -> b.setShare(-1, 0));
+        fails("week 16", ARGUMENT, x, b -> b.setShare(16, 0));
+        fails("week at the end of int", ARGUMENT, x, b -> b.setShare(Integer.MAX_VALUE, 0));
+        fails("share -1", ARGUMENT, x, b -> b.setShare(0, -1));
+        fails("share 101", ARGUMENT, x, b -> b.setShare(0, 101));
         due("kept by calls that throw", x.setShare(0, 0), 0);
     }
 
     private static void promise05SetFees() {
-        promise = "5";
-        TermBill x = new TermBill();
+        about("promise 5");
+        Bill x = new Bill();
         x.charge(0, TermBill.HOUSING, 1000000);
         x.setFees(100000, 1000000);
         due("not more than the limit", x.hasHold(0), false);
         x.charge(0, TermBill.HOUSING, 1);
         due("more than the limit", x.hasHold(0), true);
         x.plan(0, 2);
-        fails("fee -1", ARGUMENT, x, () -> x.setFees(-1, 0));
-        fails("fee 100001", ARGUMENT, x, () -> x.setFees(100001, 0));
-        fails("limit -1", ARGUMENT, x, () -> x.setFees(0, -1));
-        fails("limit 1000001", ARGUMENT, x, () -> x.setFees(0, 1000001));
-        close(x, 2);
+        fails("fee -1", ARGUMENT, x, b -> b.setFees(-1, 0));
+        fails("fee 100001", ARGUMENT, x, b -> b.setFees(100001, 0));
+        fails("limit -1", ARGUMENT, x, b -> b.setFees(0, -1));
+        fails("limit 1000001", ARGUMENT, x, b -> b.setFees(0, 1000001));
+        x.close(2);
         due("late fee", x.charged(0, TermBill.FEES), 100000);
         x.setFees(0, 0);
         due("a fee once made stays", x.charged(0, TermBill.FEES), 100000);
-        close(x, 2);
+        x.close(2);
         due("late fee 0", x.charged(0, TermBill.FEES), 100000);
     }
 
     private static void promise06SetStudent() {
-        promise = "6";
-        TermBill x = new TermBill();
+        about("promise 6");
+        Bill x = new Bill();
         x.setRate(1, false, 3);
         x.take(3, 4);
         x.award(3, TermBill.GRANT, 1000);
@@ -213,18 +200,18 @@ public final class PromisesTest {
         due("level and residence back", x.charged(3, TermBill.TUITION), 40000);
         due("need", x.used(3, 0), 1000);
         for (int student : WRONG_STUDENTS) {
-            fails("student", INDEX, x, () -> x.setStudent(student, 0, true, 0));
-            fails("student ahead of level", INDEX, x, () -> x.setStudent(student, 2, true, -1));
+            fails("student", INDEX, x, b -> b.setStudent(student, 0, true, 0));
+            fails("student ahead of level", INDEX, x, b -> b.setStudent(student, 2, true, -1));
         }
-        fails("level -1", ARGUMENT, x, () -> x.setStudent(3, -1, true, 0));
-        fails("level 2", ARGUMENT, x, () -> x.setStudent(3, 2, false, 0));
-        fails("need -1", ARGUMENT, x, () -> x.setStudent(3, 1, false, -1));
-        fails("need 1000001", ARGUMENT, x, () -> x.setStudent(3, 1, false, 1000001));
+        fails("level -1", ARGUMENT, x, b -> b.setStudent(3, -1, true, 0));
+        fails("level 2", ARGUMENT, x, b -> b.setStudent(3, 2, false, 0));
+        fails("need -1", ARGUMENT, x, b -> b.setStudent(3, 1, false, -1));
+        fails("need 1000001", ARGUMENT, x, b -> b.setStudent(3, 1, false, 1000001));
     }
 
     private static void promise07SetSponsor() {
-        promise = "7";
-        TermBill x = new TermBill();
+        about("promise 7");
+        Bill x = new Bill();
         x.take(2, 1);
         x.charge(2, TermBill.FEES, 200);
         x.charge(2, TermBill.HOUSING, 30);
@@ -240,25 +227,25 @@ public final class PromisesTest {
         }
         x.setSponsor(2, 7, 100);
         for (int student : WRONG_STUDENTS) {
-            fails("student", INDEX, x, () -> x.setSponsor(student, 0, 0));
-            fails("student ahead of kinds", INDEX, x, () -> x.setSponsor(student, 8, -1));
+            fails("student", INDEX, x, b -> b.setSponsor(student, 0, 0));
+            fails("student ahead of kinds", INDEX, x, b -> b.setSponsor(student, 8, -1));
         }
-        fails("kinds -1", ARGUMENT, x, () -> x.setSponsor(2, -1, 0));
-        fails("kinds 8", ARGUMENT, x, () -> x.setSponsor(2, 8, 0));
-        fails("limit -1", ARGUMENT, x, () -> x.setSponsor(2, 0, -1));
-        fails("limit 1000001", ARGUMENT, x, () -> x.setSponsor(2, 0, 1000001));
+        fails("kinds -1", ARGUMENT, x, b -> b.setSponsor(2, -1, 0));
+        fails("kinds 8", ARGUMENT, x, b -> b.setSponsor(2, 8, 0));
+        fails("limit -1", ARGUMENT, x, b -> b.setSponsor(2, 0, -1));
+        fails("limit 1000001", ARGUMENT, x, b -> b.setSponsor(2, 0, 1000001));
     }
 
     private static void promise08Take() {
-        promise = "8";
-        TermBill x = new TermBill();
+        about("promise 8");
+        Bill x = new Bill();
         for (int student : WRONG_STUDENTS) {
-            fails("student", INDEX, x, () -> x.take(student, 1));
-            fails("student ahead of credits", INDEX, x, () -> x.take(student, 0));
+            fails("student", INDEX, x, b -> b.take(student, 1));
+            fails("student ahead of credits", INDEX, x, b -> b.take(student, 0));
         }
-        fails("credits 0", ARGUMENT, x, () -> x.take(0, 0));
-        fails("credits 11", ARGUMENT, x, () -> x.take(0, 11));
-        fails("credits at the end of int", ARGUMENT, x, () -> x.take(0, Integer.MIN_VALUE));
+        fails("credits 0", ARGUMENT, x, b -> b.take(0, 0));
+        fails("credits 11", ARGUMENT, x, b -> b.take(0, 11));
+        fails("credits at the end of int", ARGUMENT, x, b -> b.take(0, Integer.MIN_VALUE));
         for (int i = 0; i < 8; i++) {
             due("number", x.take(0, i == 0 ? 10 : i), i);
         }
@@ -266,18 +253,18 @@ public final class PromisesTest {
         due("numbers for each student", x.take(1, 1), 0);
         x.drop(0, 0);
         x.drop(0, 7);
-        fails("dropped ones counted", STATE, x, () -> x.take(0, 1));
-        fails("credits ahead of state", ARGUMENT, x, () -> x.take(0, 0));
-        close(x, 16);
+        fails("dropped ones counted", STATE, x, b -> b.take(0, 1));
+        fails("credits ahead of state", ARGUMENT, x, b -> b.take(0, 0));
+        x.close(16);
         due("from 0 in each term", x.take(0, 1), 0);
         due("from 0 in each term", x.take(1, 1), 0);
     }
 
     private static void promise09Drop() {
-        promise = "9";
-        TermBill x = new TermBill();
+        about("promise 9");
+        Bill x = new Bill();
         x.setRate(0, true, 99);
-        take(x, 0, 10, 4, 5, 1);
+        x.takeAll(0, 10, 4, 5, 1);
         x.setShare(0, 50);
         due("12 + 20 - 18 less 12 + 19 - 18", x.drop(0, 3), 49);
         due("kept", x.charged(0, TermBill.TUITION), 13 * 99 + 49);
@@ -293,77 +280,77 @@ public final class PromisesTest {
         dropWithinBandKeepsNothing();
         x.take(1, 1);
         for (int student : WRONG_STUDENTS) {
-            fails("student", INDEX, x, () -> x.drop(student, 0));
+            fails("student", INDEX, x, b -> b.drop(student, 0));
         }
         for (int course : new int[] {-1, 4, 8, Integer.MIN_VALUE, Integer.MAX_VALUE}) {
-            fails("course " + course, INDEX, x, () -> x.drop(0, course));
+            fails("course " + course, INDEX, x, b -> b.drop(0, course));
         }
-        fails("course of another student", INDEX, x, () -> x.drop(1, 1));
-        fails("dropped", STATE, x, () -> x.drop(0, 2));
+        fails("course of another student", INDEX, x, b -> b.drop(1, 1));
+        fails("dropped", STATE, x, b -> b.drop(0, 2));
     }
 
     private static void dropWithinBandKeepsNothing() {
-        TermBill x = new TermBill();
-        take(x, 0, 10, 6, 2);
-        close(x, 5);
+        Bill x = new Bill();
+        x.takeAll(0, 10, 6, 2);
+        x.close(5);
         due("from the band's end to its inside", x.drop(0, 2), 0);
         due("from inside below its beginning", x.drop(0, 1), 20000);
         due("tuition as ahead", x.owed(0), 120000);
-        close(x, 11);
-        fails("courses of the term before", INDEX, x, () -> x.drop(0, 0));
+        x.close(11);
+        fails("courses of the term before", INDEX, x, b -> b.drop(0, 0));
     }
 
     private static void promise10Charge() {
-        promise = "10";
-        TermBill x = new TermBill();
+        about("promise 10");
+        Bill x = new Bill();
         due("fees", x.charge(0, TermBill.FEES, 1), 1);
         due("fees added up", x.charge(0, TermBill.FEES, 1000000), 1000001);
         due("housing", x.charge(0, TermBill.HOUSING, 7), 7);
         due("another student", x.charge(3, TermBill.FEES, 5), 5);
         for (int student : WRONG_STUDENTS) {
-            fails("student", INDEX, x, () -> x.charge(student, 1, 1));
-            fails("student ahead of kind", INDEX, x, () -> x.charge(student, 0, 0));
+            fails("student", INDEX, x, b -> b.charge(student, 1, 1));
+            fails("student ahead of kind", INDEX, x, b -> b.charge(student, 0, 0));
         }
         for (int kind : new int[] {0, 3, -1, 33, Integer.MAX_VALUE}) {
-            fails("kind " + kind, ARGUMENT, x, () -> x.charge(0, kind, 1));
+            fails("kind " + kind, ARGUMENT, x, b -> b.charge(0, kind, 1));
         }
         for (int kind = 1; kind < 3; kind++) {
             int good = kind;
-            fails("amount 0", ARGUMENT, x, () -> x.charge(0, good, 0));
-            fails("amount -1", ARGUMENT, x, () -> x.charge(0, good, -1));
-            fails("amount 1000001", ARGUMENT, x, () -> x.charge(0, good, 1000001));
+            fails("amount 0", ARGUMENT, x, b -> b.charge(0, good, 0));
+            fails("amount -1", ARGUMENT, x, b -> b.charge(0, good, -1));
+            fails("amount 1000001", ARGUMENT, x, b -> b.charge(0, good, 1000001));
         }
         due("owed", x.owed(0), 1000008);
     }
 
     private static void promise11Award() {
-        promise = "11";
-        TermBill x = new TermBill();
+        about("promise 11");
+        Bill x = new Bill();
         for (int student : WRONG_STUDENTS) {
-            fails("student", INDEX, x, () -> x.award(student, 0, 1));
-            fails("student ahead of rank", INDEX, x, () -> x.award(student, 3, 0));
+            fails("student", INDEX, x, b -> b.award(student, 0, 1));
+            fails("student ahead of rank", INDEX, x, b -> b.award(student, 3, 0));
         }
-        fails("rank -1", ARGUMENT, x, () -> x.award(0, -1, 1));
-        fails("rank 3", ARGUMENT, x, () -> x.award(0, 3, 1));
-        fails("amount 0", ARGUMENT, x, () -> x.award(0, 0, 0));
-        fails("amount 1000001", ARGUMENT, x, () -> x.award(0, 2, 1000001));
+        fails("rank -1", ARGUMENT, x, b -> b.award(0, -1, 1));
+        fails("rank 3", ARGUMENT, x, b -> b.award(0, 3, 1));
+        fails("amount 0", ARGUMENT, x, b -> b.award(0, 0, 0));
+        fails("amount 1000001", ARGUMENT, x, b -> b.award(0, 2, 1000001));
         for (int i = 0; i < 6; i++) {
             due("number", x.award(0, i % 3, i == 0 ? 1000000 : i), i);
             due("amount", x.amountOf(0, i), i == 0 ? 1000000 : i);
         }
         due("numbers for each student", x.award(1, TermBill.LOAN, 1), 0);
-        fails("a seventh award", STATE, x, () -> x.award(0, 0, 1));
-        fails("rank ahead of state", ARGUMENT, x, () -> x.award(0, 3, 1));
-        fails("amount ahead of state", ARGUMENT, x, () -> x.award(0, 0, 0));
+        fails("a seventh award", STATE, x, b -> b.award(0, 0, 1));
+        fails("rank ahead of state", ARGUMENT, x, b -> b.award(0, 3, 1));
+        fails("amount ahead of state", ARGUMENT, x, b -> b.award(0, 0, 0));
         x.leave(0);
-        fails("given back ones counted", STATE, x, () -> x.award(0, 0, 1));
-        close(x, 16);
+        fails("given back ones counted", STATE, x, b -> b.award(0, 0, 1));
+        x.close(16);
         due("from 0 in each term", x.award(0, TermBill.WORK, 1), 0);
     }
 
     private static void promise12Pay() {
-        promise = "12";
-        TermBill x = new TermBill();
+        about("promise 12");
+        Bill x = new Bill();
         x.take(0, 1);
         due("owes then", x.pay(0, 1), 9999);
         due("owes then", x.pay(0, 9999), 0);
@@ -371,62 +358,62 @@ public final class PromisesTest {
         due("paid", x.paid(0), 1010000);
         due("the others stay", x.paid(1), 0);
         for (int student : WRONG_STUDENTS) {
-            fails("student", INDEX, x, () -> x.pay(student, 1));
-            fails("student ahead of amount", INDEX, x, () -> x.pay(student, 0));
+            fails("student", INDEX, x, b -> b.pay(student, 1));
+            fails("student ahead of amount", INDEX, x, b -> b.pay(student, 0));
         }
-        fails("amount 0", ARGUMENT, x, () -> x.pay(0, 0));
-        fails("amount -1", ARGUMENT, x, () -> x.pay(0, -1));
-        fails("amount 1000001", ARGUMENT, x, () -> x.pay(0, 1000001));
+        fails("amount 0", ARGUMENT, x, b -> b.pay(0, 0));
+        fails("amount -1", ARGUMENT, x, b -> b.pay(0, -1));
+        fails("amount 1000001", ARGUMENT, x, b -> b.pay(0, 1000001));
     }
 
     private static void promise13Plan() {
-        promise = "13";
+        about("promise 13");
         for (int many = 1; many <= 4; many++) {
-            TermBill x = new TermBill();
+            Bill x = new Bill();
             x.charge(0, TermBill.FEES, 103);
             due("first of " + many, x.plan(0, many), 103 - 103 / many * (many - 1));
             due("owed stays", x.owed(0), 103);
         }
-        TermBill x = new TermBill();
+        Bill x = new Bill();
         x.charge(0, TermBill.FEES, 3);
         due("all in the first", x.plan(0, 4), 3);
         for (int student : WRONG_STUDENTS) {
-            fails("student", INDEX, x, () -> x.plan(student, 1));
-            fails("student ahead of many", INDEX, x, () -> x.plan(student, 0));
+            fails("student", INDEX, x, b -> b.plan(student, 1));
+            fails("student ahead of many", INDEX, x, b -> b.plan(student, 0));
         }
-        fails("many 0", ARGUMENT, x, () -> x.plan(0, 0));
-        fails("many 5", ARGUMENT, x, () -> x.plan(0, 5));
-        fails("many -1", ARGUMENT, x, () -> x.plan(0, -1));
-        fails("many ahead of state", ARGUMENT, x, () -> x.plan(1, 0));
-        fails("owes nothing", STATE, x, () -> x.plan(1, 1));
+        fails("many 0", ARGUMENT, x, b -> b.plan(0, 0));
+        fails("many 5", ARGUMENT, x, b -> b.plan(0, 5));
+        fails("many -1", ARGUMENT, x, b -> b.plan(0, -1));
+        fails("many ahead of state", ARGUMENT, x, b -> b.plan(1, 0));
+        fails("owes nothing", STATE, x, b -> b.plan(1, 1));
         x.pay(1, 1);
-        fails("has a credit", STATE, x, () -> x.plan(1, 4));
-        close(x, 1);
+        fails("has a credit", STATE, x, b -> b.plan(1, 4));
+        x.close(1);
         x.pay(0, 3);
-        fails("owes nothing now", STATE, x, () -> x.plan(0, 1));
-        close(x, 1);
+        fails("owes nothing now", STATE, x, b -> b.plan(0, 1));
+        x.close(1);
         due("the old plan is paid", x.charged(0, TermBill.FEES), 3);
     }
 
     /** The charges of the kind FEES after each of 10 weeks' ends, with the payments made in each week. */
     private static void lateFees(String what, int many, int[] payments, int[] fees) {
-        TermBill x = new TermBill();
+        Bill x = new Bill();
         x.setFees(1000, 0);
-        close(x, 3);
+        x.close(3);
         x.charge(2, TermBill.HOUSING, 103);
         x.plan(2, many);
         for (int i = 0; i < fees.length; i++) {
             if (i < payments.length && payments[i] > 0) {
                 x.pay(2, payments[i]);
             }
-            close(x, 1);
+            x.close(1);
             due(what + " at the week " + (i + 1) + " behind", x.charged(2, TermBill.FEES), 1000 * fees[i]);
         }
         due("no other student", x.charged(3, TermBill.FEES) + x.charged(0, TermBill.FEES), 0);
     }
 
     private static void promise13LateFees() {
-        promise = "13, late fees";
+        about("promise 13, late fees");
         lateFees("nothing paid", 4, new int[] {}, new int[] {0, 1, 1, 2, 2, 3, 3, 4, 4, 4});
         lateFees("nothing paid", 3, new int[] {}, new int[] {0, 1, 1, 2, 2, 3, 3, 3, 3, 3});
         lateFees("nothing paid", 2, new int[] {}, new int[] {0, 1, 1, 2, 2, 2, 2, 2, 2, 2});
@@ -440,84 +427,84 @@ public final class PromisesTest {
     }
 
     private static void laterPlanTakesThePlace() {
-        TermBill x = new TermBill();
+        Bill x = new Bill();
         x.charge(0, TermBill.FEES, 100);
         x.pay(0, 50);
         due("first plan", x.plan(0, 2), 25);
         x.pay(0, 25);
-        close(x, 1);
+        x.close(1);
         due("second plan", x.plan(0, 1), 25);
-        close(x, 1);
+        x.close(1);
         due("none falls due at the old one's week", x.charged(0, TermBill.FEES), 100);
-        close(x, 1);
+        x.close(1);
         due("paid since the later one was made", x.charged(0, TermBill.FEES), 2600);
-        close(x, 5);
+        x.close(5);
         due("the old one is gone", x.charged(0, TermBill.FEES), 2600);
         x.setFees(1, 0);
         x.plan(0, 1);
         x.setFees(7, 0);
-        close(x, 2);
+        x.close(2);
         due("the fee as it is then", x.charged(0, TermBill.FEES), 2607);
         instalmentsOfNothing();
     }
 
     private static void instalmentsOfNothing() {
-        TermBill x = new TermBill();
+        Bill x = new Bill();
         x.charge(1, TermBill.FEES, 2);
         due("first of 2, 0, 0", x.plan(1, 3), 2);
         x.pay(1, 1);
-        close(x, 8);
+        x.close(8);
         due("instalments of 0 fall due too", x.charged(1, TermBill.FEES), 7502);
     }
 
     private static void promise13PlansInLaterTerms() {
-        promise = "13, later terms";
-        TermBill x = new TermBill();
-        close(x, 12);
+        about("promise 13, later terms");
+        Bill x = new Bill();
+        x.close(12);
         x.charge(0, TermBill.HOUSING, 400);
         x.plan(0, 4);
         x.pay(0, 200);
         x.pay(1, 1000);
-        close(x, 3);
+        x.close(3);
         due("the first one is paid", x.charged(0, TermBill.FEES), 0);
         due("week 0", x.closeWeek(), 0);
         due("carried, and the second one is paid", x.charged(0, TermBill.FEES), 0);
         due("carried from the other", x.owed(1), -800);
-        close(x, 2);
+        x.close(2);
         due("carrying does not pay the third one", x.charged(0, TermBill.FEES), 2500);
         x.pay(0, 199);
-        close(x, 2);
+        x.close(2);
         due("the fourth one is short", x.charged(0, TermBill.FEES), 5000);
-        close(x, 4);
+        x.close(4);
         due("there is no fifth one", x.charged(0, TermBill.FEES), 5000);
         lateFeeAtTheBeginningOfATerm();
     }
 
     private static void lateFeeAtTheBeginningOfATerm() {
-        TermBill x = new TermBill();
-        close(x, 14);
+        Bill x = new Bill();
+        x.close(14);
         x.take(0, 1);
         x.plan(0, 1);
         x.pay(1, 50000);
-        close(x, 1);
+        x.close(1);
         due("week 15", x.charged(0, TermBill.FEES), 0);
-        close(x, 1);
+        x.close(1);
         due("a late fee in the new term", x.charged(0, TermBill.FEES), 2500);
         due("it is owed", x.owed(0), 2500);
         due("behind the carrying", x.owed(1), -40000);
     }
 
     private static void promise14Leave() {
-        promise = "14";
-        TermBill x = new TermBill();
+        about("promise 14");
+        Bill x = new Bill();
         x.setRate(0, true, 100);
         x.setShare(3, 50);
-        take(x, 0, 10, 5, 4);
+        x.takeAll(0, 10, 5, 4);
         x.award(0, TermBill.LOAN, 30);
         x.award(0, TermBill.GRANT, 100);
         x.award(0, TermBill.WORK, 40);
         x.award(0, TermBill.LOAN, 31);
-        close(x, 3);
+        x.close(3);
         x.drop(0, 1);
         due("13 less 12, halved", x.charged(0, TermBill.TUITION), 1250);
         due("201 less 37", x.leave(0), 164);
@@ -526,73 +513,73 @@ public final class PromisesTest {
         due("loans first", x.amountOf(0, 0) + x.amountOf(0, 3), 0);
         due("then work", x.amountOf(0, 2), 0);
         due("then grants", x.amountOf(0, 1), 37);
-        fails("all are dropped", STATE, x, () -> x.drop(0, 0));
+        fails("all are dropped", STATE, x, b -> b.drop(0, 0));
         due("again: 37 less 6", x.leave(0), 31);
         due("left", x.amountOf(0, 1), 6);
         due("it may take courses", x.take(0, 2), 3);
         leaveTakesOffByNumbersAndWeeks();
         due("nothing to leave", x.leave(1), 0);
         for (int student : WRONG_STUDENTS) {
-            fails("student", INDEX, x, () -> x.leave(student));
+            fails("student", INDEX, x, b -> b.leave(student));
         }
     }
 
     private static void leaveTakesOffByNumbersAndWeeks() {
         for (int week = 0; week < 16; week++) {
-            TermBill x = new TermBill();
+            Bill x = new Bill();
             x.award(0, TermBill.LOAN, 50);
             x.award(0, TermBill.LOAN, 51);
-            close(x, week);
+            x.close(week);
             int back = week >= 10 ? 0 : 101 - 101 * week / 16;
             due("back in the week " + week, x.leave(0), back);
             due("the lower number first", x.amountOf(0, 0), Math.max(0, 50 - back));
             due("then the next", x.amountOf(0, 1), Math.min(51, 101 - back));
         }
-        TermBill x = new TermBill();
+        Bill x = new Bill();
         x.setShare(0, 100);
-        take(x, 3, 8, 10, 2);
+        x.takeAll(3, 8, 10, 2);
         x.leave(3);
         due("in rising numbers", x.charged(3, TermBill.TUITION), 140000);
         keptByRisingNumbers();
     }
 
     private static void keptByRisingNumbers() {
-        TermBill x = new TermBill();
+        Bill x = new Bill();
         x.setRate(0, true, 1);
         x.setBand(1, 2);
         x.setShare(0, 50);
-        take(x, 0, 1, 2);
+        x.takeAll(0, 1, 2);
         x.leave(0);
         due("2 less 1, halved, then 1 less 0, halved", x.charged(0, TermBill.TUITION), 0);
-        take(x, 0, 2, 1);
+        x.takeAll(0, 2, 1);
         x.leave(0);
         due("2 less 1, halved, then 1 less 0, halved", x.charged(0, TermBill.TUITION), 0);
         x.setBand(2, 2);
-        take(x, 0, 1, 2);
+        x.takeAll(0, 1, 2);
         x.leave(0);
         due("3 less 2, halved, then 2 less 0, halved", x.charged(0, TermBill.TUITION), 1);
-        take(x, 0, 2, 1);
+        x.takeAll(0, 2, 1);
         x.leave(0);
         due("3 less 1, halved, then 1 less 0, halved", x.charged(0, TermBill.TUITION), 2);
     }
 
     private static void promise15CloseWeek() {
-        promise = "15";
-        TermBill x = new TermBill();
+        about("promise 15");
+        Bill x = new Bill();
         for (int i = 1; i < 160; i++) {
             due("week then", x.closeWeek(), i % 16);
             due("week", x.week(), i % 16);
             due("term", x.term(), i / 16);
         }
         x.charge(0, TermBill.FEES, 5);
-        fails("week 15 of the term 9", STATE, x, () -> x.closeWeek());
-        fails("and again", STATE, x, () -> x.closeWeek());
+        fails("week 15 of the term 9", STATE, x, b -> b.closeWeek());
+        fails("and again", STATE, x, b -> b.closeWeek());
         due("charges stay", x.charged(0, TermBill.FEES), 5);
     }
 
     /** Balances of one family ahead of a term's end and behind it; students 0 and 1, or 2 and 3. */
     private static void carry(int[] ahead, int[] behind) {
-        TermBill x = new TermBill();
+        Bill x = new Bill();
         for (int s = 0; s < 4; s++) {
             if (ahead[s] > 0) {
                 x.charge(s, TermBill.HOUSING, ahead[s]);
@@ -600,11 +587,11 @@ public final class PromisesTest {
                 x.pay(s, -ahead[s]);
             }
         }
-        close(x, 15);
+        x.close(15);
         for (int s = 0; s < 4; s++) {
             due("ahead, " + s, x.owed(s), ahead[s]);
         }
-        close(x, 1);
+        x.close(1);
         for (int s = 0; s < 4; s++) {
             due("owed, " + s, x.owed(s), behind[s]);
             due("fees, " + s, x.charged(s, TermBill.FEES), Math.max(0, behind[s]));
@@ -613,7 +600,7 @@ public final class PromisesTest {
     }
 
     private static void promise15Carrying() {
-        promise = "15, carrying";
+        about("promise 15, carrying");
         carry(new int[] {100, -30, -30, 100}, new int[] {70, 0, 0, 70});
         carry(new int[] {30, -100, -100, 30}, new int[] {0, -70, -70, 0});
         carry(new int[] {50, -50, -50, 50}, new int[] {0, 0, 0, 0});
@@ -624,19 +611,19 @@ public final class PromisesTest {
     }
 
     private static void promise15NewTerm() {
-        promise = "15, a new term";
-        TermBill x = new TermBill();
+        about("promise 15, a new term");
+        Bill x = new Bill();
         x.setRate(1, false, 10);
         x.setStudent(0, 1, false, 77);
         x.setSponsor(0, 7, 5);
-        take(x, 0, 3, 2);
+        x.takeAll(0, 3, 2);
         x.drop(0, 1);
         x.award(0, TermBill.GRANT, 7);
         x.charge(0, TermBill.FEES, 100);
         x.charge(0, TermBill.HOUSING, 200);
         x.pay(0, 18);
         due("owed", x.owed(0), 300);
-        close(x, 16);
+        x.close(16);
         due("owed then", x.owed(0), 300);
         due("tuition", x.charged(0, TermBill.TUITION), 0);
         due("fees", x.charged(0, TermBill.FEES), 300);
@@ -644,9 +631,9 @@ public final class PromisesTest {
         due("sponsored", x.sponsored(0), 0);
         due("paid", x.paid(0), 0);
         due("credits", x.credits(0), 0);
-        fails("no awards", INDEX, x, () -> x.amountOf(0, 0));
-        fails("no awards", INDEX, x, () -> x.used(0, 0));
-        fails("no courses", INDEX, x, () -> x.drop(0, 0));
+        fails("no awards", INDEX, x, b -> b.amountOf(0, 0));
+        fails("no awards", INDEX, x, b -> b.used(0, 0));
+        fails("no courses", INDEX, x, b -> b.drop(0, 0));
         x.take(0, 1);
         due("level and residence stay", x.charged(0, TermBill.TUITION), 10);
         x.award(0, TermBill.GRANT, 1000);
@@ -657,46 +644,46 @@ public final class PromisesTest {
     }
 
     private static void keptOfTheTermBeforeIsGone() {
-        TermBill x = new TermBill();
+        Bill x = new Bill();
         x.setShare(0, 100);
         x.take(0, 2);
         x.drop(0, 0);
-        close(x, 16);
+        x.close(16);
         due("it is a fee now", x.charged(0, TermBill.FEES), 20000);
         due("not tuition", x.charged(0, TermBill.TUITION), 0);
         due("owed", x.owed(0), 20000);
     }
 
     private static void promise16And17WeekAndTerm() {
-        promise = "16 and 17";
-        TermBill x = new TermBill();
-        close(x, 15);
+        about("promise 16 and 17");
+        Bill x = new Bill();
+        x.close(15);
         due("week", x.week(), 15);
         due("term", x.term(), 0);
-        close(x, 1);
+        x.close(1);
         due("week", x.week(), 0);
         due("term", x.term(), 1);
-        close(x, 35);
+        x.close(35);
         due("week", x.week(), 3);
         due("term", x.term(), 3);
     }
 
     private static void promise18Credits() {
-        promise = "18";
-        TermBill x = new TermBill();
-        take(x, 1, 10, 9, 8);
+        about("promise 18");
+        Bill x = new Bill();
+        x.takeAll(1, 10, 9, 8);
         due("credits", x.credits(1), 27);
         x.drop(1, 1);
         due("not those of dropped courses", x.credits(1), 18);
         due("of another one", x.credits(0), 0);
         for (int student : WRONG_STUDENTS) {
-            fails("student", INDEX, x, () -> x.credits(student));
+            fails("student", INDEX, x, b -> b.credits(student));
         }
     }
 
     private static void promise19Charged() {
-        promise = "19";
-        TermBill x = new TermBill();
+        about("promise 19");
+        Bill x = new Bill();
         x.take(1, 2);
         x.charge(1, TermBill.FEES, 3);
         x.charge(1, TermBill.HOUSING, 4);
@@ -704,17 +691,17 @@ public final class PromisesTest {
         due("fees", x.charged(1, TermBill.FEES), 3);
         due("housing", x.charged(1, TermBill.HOUSING), 4);
         for (int student : WRONG_STUDENTS) {
-            fails("student", INDEX, x, () -> x.charged(student, 0));
-            fails("student ahead of kind", INDEX, x, () -> x.charged(student, 3));
+            fails("student", INDEX, x, b -> b.charged(student, 0));
+            fails("student ahead of kind", INDEX, x, b -> b.charged(student, 3));
         }
         for (int kind : new int[] {-1, 3, 32, Integer.MIN_VALUE, Integer.MAX_VALUE}) {
-            fails("kind " + kind, ARGUMENT, x, () -> x.charged(1, kind));
+            fails("kind " + kind, ARGUMENT, x, b -> b.charged(1, kind));
         }
     }
 
     private static void promise20Sponsored() {
-        promise = "20";
-        TermBill x = new TermBill();
+        about("promise 20");
+        Bill x = new Bill();
         x.setSponsor(3, 5, 15000);
         due("no charges", x.sponsored(3), 0);
         x.charge(3, TermBill.FEES, 999);
@@ -728,13 +715,13 @@ public final class PromisesTest {
         x.setSponsor(3, 2, 1000);
         due("in place of the one before", x.sponsored(3), 999);
         for (int student : WRONG_STUDENTS) {
-            fails("student", INDEX, x, () -> x.sponsored(student));
+            fails("student", INDEX, x, b -> b.sponsored(student));
         }
     }
 
     private static void promise21Used() {
-        promise = "21";
-        TermBill x = new TermBill();
+        about("promise 21");
+        Bill x = new Bill();
         x.setStudent(0, 0, true, 30);
         x.award(0, TermBill.LOAN, 10);
         x.award(0, TermBill.WORK, 20);
@@ -758,60 +745,60 @@ public final class PromisesTest {
         x.setStudent(0, 0, true, 0);
         dueUsed(x, 10, 20, 0, 0, 20);
         for (int student : WRONG_STUDENTS) {
-            fails("student", INDEX, x, () -> x.used(student, 0));
+            fails("student", INDEX, x, b -> b.used(student, 0));
         }
         for (int award : new int[] {-1, 5, 6, Integer.MIN_VALUE, Integer.MAX_VALUE}) {
-            fails("award " + award, INDEX, x, () -> x.used(0, award));
+            fails("award " + award, INDEX, x, b -> b.used(0, award));
         }
-        fails("award of another one", INDEX, x, () -> x.used(1, 0));
+        fails("award of another one", INDEX, x, b -> b.used(1, 0));
     }
 
-    private static void dueUsed(TermBill x, int... uses) {
+    private static void dueUsed(Bill x, int... uses) {
         for (int i = 0; i < uses.length; i++) {
             due("used of " + i, x.used(0, i), uses[i]);
         }
     }
 
     private static void promise22AmountOf() {
-        promise = "22";
-        TermBill x = new TermBill();
+        about("promise 22");
+        Bill x = new Bill();
         x.award(2, TermBill.GRANT, 160);
         x.award(2, TermBill.GRANT, 1000000);
         due("amount", x.amountOf(2, 0), 160);
         due("amount", x.amountOf(2, 1), 1000000);
-        close(x, 9);
+        x.close(9);
         x.leave(2);
         due("given back", x.amountOf(2, 0), 0);
         due("less what was given back", x.amountOf(2, 1), 1000160 * 9 / 16);
         for (int student : WRONG_STUDENTS) {
-            fails("student", INDEX, x, () -> x.amountOf(student, 0));
+            fails("student", INDEX, x, b -> b.amountOf(student, 0));
         }
         for (int award : new int[] {-1, 2, 6, Integer.MIN_VALUE, Integer.MAX_VALUE}) {
-            fails("award " + award, INDEX, x, () -> x.amountOf(2, award));
+            fails("award " + award, INDEX, x, b -> b.amountOf(2, award));
         }
     }
 
     private static void promise23Paid() {
-        promise = "23";
-        TermBill x = new TermBill();
+        about("promise 23");
+        Bill x = new Bill();
         x.pay(0, 100);
         x.charge(0, TermBill.FEES, 30);
         x.pay(2, 60);
         x.charge(2, TermBill.FEES, 60);
         due("paid", x.paid(0), 100);
-        close(x, 16);
+        x.close(16);
         due("the credit counts as paid", x.paid(0), 70);
         due("nothing counts as paid", x.paid(2), 0);
         x.pay(0, 5);
         due("added", x.paid(0), 75);
         for (int student : WRONG_STUDENTS) {
-            fails("student", INDEX, x, () -> x.paid(student));
+            fails("student", INDEX, x, b -> b.paid(student));
         }
     }
 
     private static void promise24Owed() {
-        promise = "24";
-        TermBill x = new TermBill();
+        about("promise 24");
+        Bill x = new Bill();
         x.take(1, 3);
         x.charge(1, TermBill.FEES, 200);
         x.charge(1, TermBill.HOUSING, 30);
@@ -824,13 +811,13 @@ public final class PromisesTest {
         x.award(1, TermBill.LOAN, 1000000);
         due("aid covers charges, not what was paid", x.owed(1), -10005);
         for (int student : WRONG_STUDENTS) {
-            fails("student", INDEX, x, () -> x.owed(student));
+            fails("student", INDEX, x, b -> b.owed(student));
         }
     }
 
     private static void promise25HasHold() {
-        promise = "25";
-        TermBill x = new TermBill();
+        about("promise 25");
+        Bill x = new Bill();
         x.setFees(0, 50);
         due("nothing", x.hasHold(3), false);
         x.charge(3, TermBill.FEES, 50);
@@ -847,75 +834,17 @@ public final class PromisesTest {
         x.pay(3, 1);
         due("a credit", x.hasHold(3), false);
         for (int student : WRONG_STUDENTS) {
-            fails("student", INDEX, x, () -> x.hasHold(student));
+            fails("student", INDEX, x, b -> b.hasHold(student));
         }
     }
 
     private static void constants() {
-        promise = "the constants";
+        about("promise the constants");
         due("TUITION", TermBill.TUITION, 0);
         due("FEES", TermBill.FEES, 1);
         due("HOUSING", TermBill.HOUSING, 2);
         due("GRANT", TermBill.GRANT, 0);
         due("WORK", TermBill.WORK, 1);
         due("LOAN", TermBill.LOAN, 2);
-    }
-
-    // ---- helpers
-
-    private static void close(TermBill x, int weeks) {
-        for (int i = 0; i < weeks; i++) {
-            x.closeWeek();
-        }
-    }
-
-    private static void take(TermBill x, int student, int... credits) {
-        for (int each : credits) {
-            x.take(student, each);
-        }
-    }
-
-    private static void due(String what, Object got, Object want) {
-        if (!Objects.equals(got, want)) {
-            wrong++;
-            System.out.println("promise " + promise + ": " + what + " is " + got + ", due is " + want);
-        }
-    }
-
-    /** A call that throws must throw just this, and change nothing that can be seen. */
-    private static void fails(String what, Class<?> want, TermBill x, Runnable call) {
-        String before = seen(x);
-        Class<?> got = null;
-        try {
-            call.run();
-        } catch (RuntimeException e) {
-            got = e.getClass();
-        }
-        due(what + " throws", got, want);
-        due(what + " leaves", seen(x), before);
-    }
-
-    private static String seen(TermBill x) {
-        StringBuilder all = new StringBuilder();
-        all.append(x.term()).append('/').append(x.week());
-        for (int s = 0; s < 4; s++) {
-            all.append(' ').append(x.credits(s)).append(' ').append(x.sponsored(s));
-            all.append(' ').append(x.paid(s)).append(' ').append(x.owed(s)).append(x.hasHold(s));
-            for (int kind = 0; kind < 3; kind++) {
-                all.append(' ').append(x.charged(s, kind));
-            }
-            for (int award = 0; award < 6; award++) {
-                all.append(awardSeen(x, s, award));
-            }
-        }
-        return all.toString();
-    }
-
-    private static String awardSeen(TermBill x, int student, int award) {
-        try {
-            return " " + x.used(student, award) + "of" + x.amountOf(student, award);
-        } catch (IndexOutOfBoundsException e) {
-            return "-";
-        }
     }
 }
