@@ -57,10 +57,10 @@ public final class TermBill {
 
     /** Sets a rate; returns the rate before. */
     public int setRate(int level, boolean isResident, int rate) throws IllegalArgumentException {
-        if (!isWithin(level, 0, LAST_LEVEL) || !isWithin(rate, 0, MAX_RATE)) {
+        int place = placeOfRate(level, isResident);
+        if (place < 0 || place >= rates.length || !isWithin(rate, 0, MAX_RATE)) {
             throw new IllegalArgumentException("level or rate is out of range");
         }
-        int place = placeOfRate(level, isResident);
         int before = rates[place];
         rates[place] = rate;
         return before;
@@ -316,9 +316,16 @@ public final class TermBill {
         return term * WEEKS + week;
     }
 
-    /** Below RATES for every argument, so that it needs no test at the array. */
+    /** Answers -1 for a level that there is not. */
     private static int placeOfRate(int level, boolean isResident) {
-        return (level == 0 ? 0 : 2) + (isResident ? 1 : 0);
+        if (level < 0 || level > LAST_LEVEL) {
+            return -1;
+        }
+        return 2 * level + (isResident ? 1 : 0);
+    }
+
+    private int rateAt(int place) {
+        return place >= 0 && place < rates.length ? rates[place] : 0;
     }
 
     private int shareNow() {
@@ -336,7 +343,7 @@ public final class TermBill {
     }
 
     private int dropCourse(Student one, int course) {
-        int rate = rates[placeOfRate(one.level, one.isResident)];
+        int rate = rateAt(placeOfRate(one.level, one.isResident));
         int ahead = priceOf(one.courses.total(), rate);
         one.courses.remove(course);
         int behind = priceOf(one.courses.total(), rate);
@@ -356,7 +363,7 @@ public final class TermBill {
     private int chargesOf(Student one, int kinds) {
         int sum = 0;
         if ((kinds & TUITION_BIT) != 0) {
-            int rate = rates[placeOfRate(one.level, one.isResident)];
+            int rate = rateAt(placeOfRate(one.level, one.isResident));
             sum += priceOf(one.courses.total(), rate) + one.courses.keptSum;
         }
         if ((kinds & FEES_BIT) != 0) {

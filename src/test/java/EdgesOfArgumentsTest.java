@@ -1,3 +1,4 @@
+import java.util.List;
 import java.util.function.Consumer;
 import java.util.function.Supplier;
 
@@ -17,6 +18,7 @@ public final class EdgesOfArgumentsTest extends Check {
         argumentsAreLookedAtAheadOfStates();
         statesThatRefuse();
         refusedCallsInARow();
+        lookingChangesNothing();
         end("EdgesOfArgumentsTest");
     }
 
@@ -250,5 +252,22 @@ public final class EdgesOfArgumentsTest extends Check {
             fails("setBand", ARGUMENT, full, b -> b.setBand(2, 1));
         }
         due("all that is seen", seen.get(), before);
+    }
+
+    /** "Nothing is promised beyond the answers and state changes described above": looking has none. */
+    private static void lookingChangesNothing() {
+        about("calls that only look");
+        for (Bill bill : List.of(new Bill(), busy(), full())) {
+            List<String> before = Probe.all(() -> bill.twin());
+            List<String> behind = Probe.all(() -> lookedAt(bill.twin()));
+            for (int i = 0; i < before.size(); i++) {
+                due("looking leaves", behind.get(i), before.get(i));
+            }
+        }
+    }
+
+    private static Bill lookedAt(Bill bill) {
+        due("the second look", Probe.look(bill), Probe.look(bill));
+        return bill;
     }
 }

@@ -67,6 +67,8 @@ public final class FaceTest {
             Matcher found = Pattern.compile(pattern).matcher(text);
             due("in the text: " + pattern, found.find(), false);
         }
+        indicesAreLookedAt(text);
+        methodsStayShort(text);
         System.out.println(wrong == 0 ? "FaceTest: all as due" : wrong + " findings");
         if (wrong != 0) {
             System.exit(1);
@@ -130,6 +132,33 @@ public final class FaceTest {
         List<Class<?>> all = new ArrayList<>(Arrays.asList(TermBill.class.getDeclaredClasses()));
         all.add(TermBill.class);
         return all;
+    }
+
+    /** "an index is looked at before it is used": in the same method, which no blank line divides. */
+    private static void indicesAreLookedAt(String text) {
+        int seen = 0;
+        for (String method : text.split("\\n\\s*\\n")) {
+            Matcher access = Pattern.compile("(?<!new )\\b\\w+\\[([^\\]]+)\\]").matcher(method);
+            while (access.find()) {
+                String index = access.group(1);
+                Pattern look = Pattern.compile("\\b" + Pattern.quote(index) + " (<|>=) ");
+                boolean isNumber = index.matches("\\d+");
+                due(access.group() + " is looked at", isNumber || look.matcher(method.substring(0, access.start())).find(), true);
+                seen++;
+            }
+        }
+        due("arrays are used", seen > 0, true);
+    }
+
+    private static void methodsStayShort(String text) {
+        for (String method : text.split("\\n\\s*\\n")) {
+            due("some sixty lines in " + method.strip().lines().findFirst().orElse(""), method.lines().count() <= 60, true);
+        }
+        for (Class<?> each : classes()) {
+            for (Method method : each.getDeclaredMethods()) {
+                due("at most seven parameters of " + method, method.getParameterCount() <= 7, true);
+            }
+        }
     }
 
     private static String withoutComments(String text) {
